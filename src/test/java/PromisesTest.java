@@ -517,6 +517,19 @@ public final class PromisesTest {
         Check.due("but no area: above", line.waste(0), 1);
         Check.due("but no area: below", line.waste(1), 1);
 
+        // The document names no least fraction: what is taken off may be more than there is.
+        PanelForms grown = new PanelForms(10, 10);
+        addBox(grown, 5, 5);
+        grown.run(1, 8);
+        Check.due("nothing left: above", grown.waste(0), 0);
+        Check.due("nothing left: below", grown.waste(1), 1);
+        grown.corner(0, 0, 15);
+        Check.due("a line more adds no area", grown.waste(0), 0);
+        grown.corner(0, 20, 15);
+        // By the ring 250 / 2 each, of four.
+        Check.due("outlines grown over the panel: above", grown.waste(0), -4);
+        Check.due("outlines grown over the panel: below", grown.waste(1), 1);
+
         PanelForms large = new PanelForms(65536, 65536);
         addBox(large, 1, 1);
         large.wants(0, 1);
