@@ -5,10 +5,25 @@ final class Check {
         long answer();
     }
 
+    /** Such a call, made on the object that it is given. */
+    interface CallOn {
+        long answer(PanelForms p);
+    }
+
     private static int wrong = 0;
     private static int looked = 0;
+    private static String heading = "";
 
     private Check() {
+    }
+
+    /** What is told ahead of each wrong answer from now on. */
+    static void under(String text) {
+        heading = text;
+    }
+
+    static int looked() {
+        return looked;
     }
 
     static long one(boolean b) {
@@ -53,7 +68,7 @@ final class Check {
         if (!got.equals(want)) {
             wrong++;
             if (wrong <= 40) {
-                System.out.println(what + " answered " + got + ", due is " + want);
+                System.out.println(heading + what + " answered " + got + ", due is " + want);
             }
         }
     }

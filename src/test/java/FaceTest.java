@@ -5,7 +5,7 @@ import java.lang.reflect.Modifier;
 import java.util.Set;
 import java.util.TreeSet;
 
-/** The public face: exactly the members of the document, and all else private. */
+/** "The public face" and rules 1 and 5 of LANGUAGE.md: exactly the members of the document, and all else private. */
 public final class FaceTest {
     private static final String[] METHODS = {
         "public int PanelForms.board()",

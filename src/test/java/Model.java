@@ -173,6 +173,10 @@ final class Model {
         return laid;
     }
 
+    int copies() {
+        return copies.size();
+    }
+
     long at(int copy, int what) {
         needCopy(copy);
         index(0 <= what && what <= 5);
