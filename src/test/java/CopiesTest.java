@@ -314,6 +314,11 @@ public final class CopiesTest {
         Panels.addBoard(bow, new long[][] {{0, 0}, {4, 4}, {4, 0}, {0, 4}});
         bow.run(1, 8);
         wasteIs("a bow's two halves make up for each other", bow, 1, 1);
+        PanelForms twice = new PanelForms(20, 20);
+        Panels.addBoard(twice, new long[][] {{0, 0}, {10, 0}, {10, 10}, {0, 10}, {0, 0}, {10, 0}, {10, 10}, {0, 10}});
+        twice.wants(0, 1);
+        twice.run(1, 1);
+        wasteIs("a ring that goes round twice counts twice", twice, 1, 2);
     }
 
     @Says(in = "Promise 11", sentence = "as it is now")
